@@ -449,11 +449,11 @@ public final class NoteHouse {
 
     private int kindOf(int k, Shown it) {
         Paper itsPaper = paperAt(it.paper);
-        if (isStopped(it)) {
-            return STOPPED;
-        }
         if (itsPaper == null) {
             return GOOD;
+        }
+        if (isStopped(it)) {
+            return STOPPED;
         }
         if (unlikeness(it.hand, itsPaper.hand) >= theLaw.forgedFrom) {
             return FORGED;
@@ -545,9 +545,10 @@ public final class NoteHouse {
         }
 
         private int[] quickest(int from, boolean byWiresToo) {
-            Arrays.fill(days, NO_WAY);
-            Arrays.fill(isPassed, false);
-            days[from] = 0;
+            for (int t = 0; t < TOWNS; t++) {
+                days[t] = t == from ? 0 : NO_WAY;
+                isPassed[t] = false;
+            }
             for (int round = 0; round < TOWNS; round++) {
                 int near = nearestAhead();
                 if (near == NONE) {
@@ -708,7 +709,7 @@ public final class NoteHouse {
         }
 
         boolean takes(char sign) {
-            if (isOver() || bytes[at] != sign) {
+            if (nextPlace() >= length || bytes[at] != sign) {
                 return false;
             }
             at++;

@@ -46,7 +46,9 @@ public final class AdvicesStopsTest {
         x.advise(0, 0);
         x.advise(0, 3);
         CHECK.is("lose -1", x.lose(-1), false);
-        CHECK.is("lose 5", x.lose(5), false);
+        for (int k : new int[] {5, 6, 59, 60, 61, Integer.MAX_VALUE, Integer.MIN_VALUE}) {
+            CHECK.is("lose " + k, x.lose(k), false);
+        }
         CHECK.is("lose what came at once", x.lose(2), false);
         CHECK.is("lose what came to its own", x.lose(3), false);
         CHECK.is("lose what never comes", x.lose(4), true);
@@ -87,6 +89,8 @@ public final class AdvicesStopsTest {
         CHECK.is("stop of paper 2", x.stop(2, -1, 0), -1);
         CHECK.is("stop of leaf -2", x.stop(0, -2, 0), -1);
         CHECK.is("stop of leaf 3", x.stop(0, 3, 0), -1);
+        CHECK.is("stop of leaf 4", x.stop(0, 4, 0), -1);
+        CHECK.is("stop of paper 31", x.stop(31, -1, 0), -1);
         CHECK.is("stop of a credit's leaf", x.stop(1, 0, 0), -1);
         CHECK.is("stop in town -1", x.stop(0, 0, -1), -1);
         CHECK.is("stop in town 12", x.stop(0, 0, 12), -1);
@@ -135,7 +139,10 @@ public final class AdvicesStopsTest {
         CHECK.is("advice -1", x.comes(0, -1, 1), -1);
         CHECK.is("advice 1", x.comes(0, 1, 1), -1);
         CHECK.is("stop -1", x.comes(1, -1, 1), -1);
-        CHECK.is("stop 1", x.comes(1, 1, 1), -1);
+        for (int k : new int[] {1, 2, 59, 60, 61, Integer.MAX_VALUE, Integer.MIN_VALUE}) {
+            CHECK.is("stop " + k, x.comes(1, k, 1), -1);
+            CHECK.is("advice " + k, x.comes(0, k, 1), -1);
+        }
         CHECK.is("advice, town -1", x.comes(0, 0, -1), -1);
         CHECK.is("advice, town 12", x.comes(0, 0, 12), -1);
         CHECK.is("stop, town -1", x.comes(1, 0, -1), -1);
@@ -159,5 +166,7 @@ public final class AdvicesStopsTest {
         CHECK.is("60 stops", x.count(3), 60);
         CHECK.is("the last advice", x.lose(59), true);
         CHECK.is("the last stop", x.comes(1, 59, 1), 0);
+        CHECK.is("no advice 60", x.lose(60), false);
+        CHECK.is("no stop 60", x.comes(1, 60, 1), -1);
     }
 }

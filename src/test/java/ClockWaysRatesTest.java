@@ -160,8 +160,8 @@ public final class ClockWaysRatesTest {
         CHECK.is("rate coin above", x.rate(3, 4, 1), false);
         CHECK.is("rate 0", x.rate(3, 0, 0), false);
         CHECK.is("rate above", x.rate(3, 0, 100001), false);
-        x.show(3, 0, -1, 999, 0, false);
-        CHECK.is("rate at first", x.shown(0, 6), 999);
+        x.show(3, 0, -1, 100000, 0, false);
+        CHECK.is("rate at first", x.shown(0, 6), 100000);
         CHECK.is("rate 1", x.rate(3, 3, 1), true);
         x.show(3, 0, -1, 999, 0, false);
         CHECK.is("999 of 1 thousandth", x.shown(1, 6), 0);

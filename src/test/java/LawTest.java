@@ -98,5 +98,11 @@ public final class LawTest {
         terms(x, "a fault at the end", 1, 1, 2, 2, 10);
         Check.law(x, "over town");
         terms(x, "the next law forgets the last", 1, 1, 0, 1, 10);
+        for (int k = 0; k < 3; k++) {
+            Check.law(x, "stopped half;forged half;twice half;over house;hand 33");
+            terms(x, "all told", 2, 2, 2, 0, 33);
+        }
+        Check.law(x, "");
+        terms(x, "none told", 1, 1, 0, 2, 10);
     }
 }

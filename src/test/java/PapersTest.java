@@ -43,7 +43,9 @@ public final class PapersTest {
             CHECK.is("what 5 of " + k, x.paper(k, 5), -1);
         }
         CHECK.is("paper -1", x.paper(-1, 0), -1);
-        CHECK.is("paper 4", x.paper(4, 0), -1);
+        for (int k : new int[] {4, 5, 29, 30, 31, Integer.MAX_VALUE, Integer.MIN_VALUE}) {
+            CHECK.is("paper " + k, x.paper(k, 0), -1);
+        }
         CHECK.is("papers", x.count(1), 4);
     }
 

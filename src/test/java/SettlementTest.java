@@ -87,6 +87,7 @@ public final class SettlementTest {
         CHECK.is("asked is not in it", x.settled(3, 0), -1);
         CHECK.is("none such", x.settled(4, 0), -1);
         CHECK.is("none such: 200", x.settled(200, 0), -1);
+        CHECK.is("none such: 201", x.settled(201, 0), -1);
         CHECK.is("none such: -1", x.settled(-1, 0), -1);
         CHECK.is("due -1", x.due(-1), 0);
         CHECK.is("due 12", x.due(12), 0);
@@ -320,7 +321,9 @@ public final class SettlementTest {
             CHECK.is(name + ": gift " + k + " -1", x.netted(k, -1), -1);
             CHECK.is(name + ": gift " + k + " 4", x.netted(k, 4), -1);
         }
-        CHECK.is(name + ": none behind", x.netted(want.length, 0), -1);
+        for (int k : new int[] {want.length, want.length + 1, 12, 13, Integer.MAX_VALUE, Integer.MIN_VALUE}) {
+            CHECK.is(name + ": none behind, " + k, x.netted(k, 0), -1);
+        }
         CHECK.is(name + ": none ahead", x.netted(-1, 0), -1);
     }
 
@@ -354,6 +357,7 @@ public final class SettlementTest {
         x.send(1, 1);
         x.settle(20);
         gifts(x, "givers", new long[][] {{1, 6, 1, 0}, {10, 6, 40, 0}, {11, 6, 29, 0}, {11, 12, 21, 0}});
+        onesGive();
         NoteHouse y = payingHouse();
         for (int t = 1; t < 12; t++) {
             y.send(t, t);
@@ -361,6 +365,18 @@ public final class SettlementTest {
         y.settle(0);
         CHECK.is("eleven gifts", y.count(6), 11);
         CHECK.is("the last", y.netted(10, 2), 11);
+    }
+
+    private static void onesGive() {
+        NoteHouse x = payingHouse();
+        x.credit(100000, 0, 10);
+        x.rate(8, 1, 1000);
+        x.show(6, 0, -1, 1, 0, true);
+        x.show(7, 0, -1, 1, 0, true);
+        x.show(8, 0, -1, 1, 0, true);
+        x.send(9, 1);
+        x.settle(20);
+        gifts(x, "ones", new long[][] {{9, 6, 1, 0}, {12, 7, 1, 0}, {12, 8, 1, 1}});
     }
 
     private static void netsEven() {

@@ -52,7 +52,9 @@ public final class ShownTest {
             CHECK.is("shown " + k + " 9", x.shown(k, 9), -1);
         }
         CHECK.is("shown -1", x.shown(-1, 0), -1);
-        CHECK.is("shown 5", x.shown(5, 0), -1);
+        for (int k : new int[] {5, 6, 199, 200, 201, Integer.MAX_VALUE, Integer.MIN_VALUE}) {
+            CHECK.is("shown " + k, x.shown(k, 0), -1);
+        }
         CHECK.is("shown so many", x.count(4), 5);
         CHECK.is("only what is paid is noted", x.paper(1, 3), 0);
     }

@@ -135,6 +135,8 @@ public final class TapeTextsTest {
         }
         rules(blanks + "pay", 1);
         rules(blanks + "   ", 0);
+        rules("pay if day<" + blanks.substring(14) + "123456", 1);
+        fault("pay if day<" + blanks.substring(15) + "1234567", 293, 1);
         fault(blanks + "pa ", 297, 0);
         fault(blanks + "pa;", 297, 0);
         fault(blanks.substring(2) + "pay; ", 300, 0);
@@ -178,6 +180,12 @@ public final class TapeTextsTest {
         CHECK.is("blanks", Check.text(x, 2, " "), 0);
         CHECK.is("2 refuses now", x.show(2, 0, -1, 1, 0, true), 1);
         CHECK.is("by none", x.shown(3, 5), -1);
+        for (int k = 0; k < 3; k++) {
+            CHECK.is("with a cond", Check.text(x, 2, "pay if day>9;ask if day>9"), 2);
+            CHECK.is("it is not so", x.show(2, 0, -1, 1, 0, true), 1);
+            CHECK.is("without one", Check.text(x, 2, "pay;ask"), 2);
+            CHECK.is("it is paid", x.show(2, 0, -1, 1, 0, true), 0);
+        }
     }
 
     private static void tapeThen() {
@@ -189,6 +197,16 @@ public final class TapeTextsTest {
         CHECK.is("text of 0", x.text(0), 1);
         CHECK.is("the tape is empty", x.count(5), 0);
         CHECK.is("the empty tape", x.text(0), 0);
+        Check.feed(x, "pay if day<1234567;pay");
+        x.end(17);
+        CHECK.is("what was cut off is not read: a number", x.text(0), 1);
+        Check.feed(x, "pay;ask  ");
+        x.end(5);
+        CHECK.is("what was cut off is not read: a word", x.text(0), -2 - (1 + 4 * 4));
+        Check.feed(x, "pay;ask");
+        x.end(3);
+        CHECK.is("what was cut off is not read: a sign", x.text(0), 1);
+        x.text(0);
         CHECK.is("no rules", x.count(10), 0);
     }
 }
