@@ -2,7 +2,7 @@ import java.util.ArrayList;
 import java.util.Arrays;
 import java.util.List;
 
-/** A second house, written from the document alone and in other ways than NoteHouse: its answers are compared. */
+/** A second house, written in other ways than NoteHouse (but with the same readings): its answers are compared. */
 final class PlainHouse {
     private static final long FAR = 1L << 40;
     private static final List<String> DEEDS = Arrays.asList("pay", "refuse", "ask");
