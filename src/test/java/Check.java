@@ -15,6 +15,14 @@ final class Check {
         is(call, got ? 1L : 0L, want ? 1L : 0L);
     }
 
+    int asked() {
+        return asked;
+    }
+
+    int wrong() {
+        return wrong;
+    }
+
     void end() {
         System.out.println(asked + " answers, " + wrong + " not as due");
         if (wrong != 0) {
