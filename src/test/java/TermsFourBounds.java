@@ -125,10 +125,19 @@ final class TermsFourBounds {
         for (String again : new String[] {"stopped half", "forged half", "twice half", "over half", "hand 5"}) {
             fault(c, all + ";" + again, all.length() + 1, 2);
         }
+        fault(c, all + ";", all.length() + 1, 0);
+        fault(c, all + ";;", all.length() + 1, 0);
+        fault(c, all + "; x", all.length() + 2, 0);
+        fault(c, all + "; 7", all.length() + 2, 0);
         House x = new House();
-        x.law("twice half;hand 5");
-        c.is("each law tells anew", x.law("twice town;hand 6"), 0);
-        stands(c, x, "anew", 1, 1, 1, 2, 6);
+        for (int k = 0; k < 4; k++) {
+            c.is("each law tells anew: one", x.law("twice half;hand 5"), 0);
+            stands(c, x, "one", 1, 1, 2, 2, 5);
+            c.is("each law tells anew: other", x.law("hand 6;over town;twice town"), 0);
+            stands(c, x, "other", 1, 1, 1, 1, 6);
+            c.is("each law tells anew: a fault", x.law("forged half;hand 7;hand 7"), 1 + 4 * 19 + 2);
+            stands(c, x, "what stays", 1, 1, 1, 1, 6);
+        }
     }
 
     private static void without(Check c) {
@@ -181,6 +190,42 @@ final class TermsFourBounds {
             outcome(c, "hand ", sign, digit, blank ? 6 : 5);
             outcome(c, "hand 1", sign, digit || blank, b == ';' ? 7 : 6);
             outcome(c, "hand 1 ", sign, blank, b == ';' ? 8 : 7);
+        }
+        wrongWords(c, "", " half", "stopped forged twice over");
+        wrongWords(c, "", " 5", "hand");
+        wrongWords(c, "over ", "", "house town half");
+        theEnd(c);
+    }
+
+    /** Words of a list with a letter less, more, or another: their first byte is the place. */
+    private static void wrongWords(Check c, String ahead, String behind, String list) {
+        for (String word : list.split(" ")) {
+            for (int k = 0; k < word.length(); k++) {
+                char other = (char) (word.charAt(k) == 'z' ? 'a' : word.charAt(k) + 1);
+                fault(c, ahead + word.substring(0, k) + other + word.substring(k + 1) + behind, ahead.length(), 0);
+                fault(c, ahead + word.substring(0, k) + word.substring(k + 1) + behind, ahead.length(), 0);
+            }
+            fault(c, ahead + word + "a" + behind, ahead.length(), 0);
+            fault(c, ahead + "a" + word + behind, ahead.length(), 0);
+        }
+    }
+
+    /** The law may end at any byte, of 200 too, and what was cut off behind it is not read. */
+    private static void theEnd(Check c) {
+        String text = "over  house ;hand 12 ";
+        int[] faults = {-1, 0, 0, 0, 4, 5, 6, 6, 6, 6, 6, -1, -1, 13, 13, 13, 13, 17, 18, -1, -1, -1};
+        for (int n = 1; n <= text.length(); n++) {
+            for (String behind : new String[] {"", text.substring(n), "zzzz", "9999", ";;;;", "    ", "half"}) {
+                House x = new House();
+                x.tape(text.substring(0, n) + behind);
+                x.end(n);
+                c.is("the first " + n + " of " + text + ", behind them " + behind, x.law(),
+                    faults[n] < 0 ? 0 : 1 + 4 * faults[n]);
+            }
+            int blanks = 200 - n;
+            House x = new House();
+            c.is("at the end of 200: " + n, x.law(" ".repeat(blanks) + text.substring(0, n)),
+                faults[n] < 0 ? 0 : 1 + 4 * (blanks + faults[n]));
         }
     }
 

@@ -214,6 +214,50 @@ final class TermsOneBounds {
         c.is("sent later: the advice", x.comes(0, 2, 3), 1);
         c.is("sent later: the stop", x.comes(1, 1, 3), 0);
         c.is("sent later: the letter", x.shown(1, 8), 1);
+        for (int stride : new int[] {1, 5, 7, 11}) {
+            manyWays(c, stride, 0);
+            manyWays(c, stride, 7);
+        }
+    }
+
+    /** Ways between any two TOWNS, the longer the more they leap over: the quickest goes through all between. */
+    private static void manyWays(Check c, int stride, int start) {
+        House x = new House();
+        x.credit(9, 0, 1);
+        for (int i = 0; i < 12; i++) {
+            for (int j = i + 1; j < 12; j++) {
+                int days = Math.min(99, (j - i) * (j - i));
+                x.way((start + i * stride) % 12, (start + j * stride) % 12, (i + j) % 4 == 3, days);
+            }
+        }
+        x.stop(0, -1, start);
+        for (int j = 0; j < 12; j++) {
+            int t = (start + j * stride) % 12;
+            x.advise(0, t);
+            c.is("news from " + start + " by " + stride + " to " + t, x.comes(1, 0, t), j);
+        }
+        for (int j = 0; j < 12 && start == 0; j++) {
+            // a single step is a wire wherever i + j is 3 of 4, so a letter goes over two at once there
+            int t = j * stride % 12;
+            c.is("a letter by " + stride + " to " + t, x.comes(0, j, t), lettersAlong(j));
+        }
+    }
+
+    /** Days by posts of 1, 4 and 9 over one, two and three steps, without the single steps that are wires. */
+    private static int lettersAlong(int to) {
+        int[] days = new int[12];
+        for (int j = 1; j < 12; j++) {
+            days[j] = 99;
+        }
+        for (int round = 0; round < 12; round++) {
+            for (int i = 0; i < 12; i++) {
+                for (int j = 0; j < 12; j++) {
+                    int step = (i + j) % 4 == 3 ? 99 : Math.min(99, (j - i) * (j - i));
+                    days[j] = Math.min(days[j], days[i] + step);
+                }
+            }
+        }
+        return days[to];
     }
 
     private static void comesToEach(Check c) {

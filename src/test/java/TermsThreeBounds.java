@@ -186,6 +186,46 @@ final class TermsThreeBounds {
             outcome(c, "pay if day>1 ", sign, blank ? 1 : -1, b == ';' ? 14 : 13);
             outcome(c, "pay if day>1 and ", sign, -1, blank ? 18 : 17);
         }
+        wrongWords(c, "", "", "pay refuse ask");
+        wrongWords(c, "ask ", " day=1", "if");
+        wrongWords(c, "ask if ", "=1", "hand advised stopped age late amount left day");
+        wrongWords(c, "ask if day=1 ", " age=1", "and");
+        theEnd(c);
+    }
+
+    /** Words of a list with a letter less, more, or another: their first byte is the place. */
+    private static void wrongWords(Check c, String ahead, String behind, String list) {
+        for (String word : list.split(" ")) {
+            rules(c, ahead + word + behind, 1);
+            for (int k = 0; k < word.length(); k++) {
+                char other = (char) (word.charAt(k) == 'z' ? 'a' : word.charAt(k) + 1);
+                fault(c, ahead + word.substring(0, k) + other + word.substring(k + 1) + behind, ahead.length(), 0);
+                fault(c, ahead + word.substring(0, k) + word.substring(k + 1) + behind, ahead.length(), 0);
+            }
+            fault(c, ahead + word + "a" + behind, ahead.length(), 0);
+            fault(c, ahead + "a" + word + behind, ahead.length(), 0);
+        }
+    }
+
+    /** The text may end at any byte, of a full TAPE too, and what was cut off behind it is not read. */
+    private static void theEnd(Check c) {
+        String text = "ask if day > 123456 and age=1 ;pay";
+        int[] faults = {0, 0, 0, -1, -1, 4, 6, 7, 7, 7, 10, 11, 12, 13, -1, -1, -1, -1, -1, -1, -1, 20, 20, 23, 24, 24, 24, 27,
+            28, -1, -1, 31, 31, 31, -1};
+        for (int n = 1; n <= text.length(); n++) {
+            boolean isText = faults[n] < 0;
+            int rules = n == text.length() ? 2 : 1;
+            for (String behind : new String[] {"", text.substring(n), "zzzz", "9999", "====", ";;;;", "    ", "pay"}) {
+                House x = new House();
+                x.tape(text.substring(0, n) + behind);
+                x.end(n);
+                c.is("the first " + n + " of " + text + ", behind them " + behind, x.text(1), isText ? rules : -3 - 4 * faults[n]);
+            }
+            int blanks = 300 - n;
+            House x = new House();
+            c.is("at the end of 300: " + n, x.agent(1, " ".repeat(blanks) + text.substring(0, n)),
+                isText ? rules : -3 - 4 * (blanks + faults[n]));
+        }
     }
 
     private static void outcome(Check c, String ahead, char sign, int rules, int place) {
