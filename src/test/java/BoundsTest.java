@@ -5,6 +5,7 @@ public final class BoundsTest {
 
     public static void main(String[] args) throws Exception {
         Sentences sentences = new Sentences();
+        FrameBounds.ahead(sentences);
         TermsOneBounds.all(sentences);
         TermsTwoBounds.all(sentences);
         TermsThreeBounds.all(sentences);
@@ -12,6 +13,7 @@ public final class BoundsTest {
         PromisesOneBounds.all(sentences);
         PromisesTwoBounds.all(sentences);
         PromisesThreeBounds.all(sentences);
+        FrameBounds.behind(sentences);
         sentences.end();
     }
 }

@@ -1,6 +1,9 @@
 import java.util.Random;
 
-/** All promises: runs of random calls (the same each time), each answer compared with PlainHouse's. */
+/**
+ * All promises: runs of random calls (the same each time), each answer compared with PlainHouse's. They go on behind
+ * the 512th call, where the document leaves the answers free: both houses go on there as before.
+ */
 public final class RandomRunsTest {
     private static final int RUNS = 1500;
     private static final int CALLS = 512;

@@ -10,7 +10,7 @@ import java.util.function.Consumer;
 
 /**
  * The document's sentences, each with a test of its own. A test names its sentence by quoting it; at the end every
- * word of the Terms and of the Promises must have been quoted, so none is without a test.
+ * word of the document, but for its headings, must have been quoted, so none is without a test.
  */
 final class Sentences {
     private static final Path DOCUMENT = Path.of("../shared/DOC.md");
@@ -41,7 +41,7 @@ final class Sentences {
 
     /** A test of one sentence, or a part of it, of a part of the document. */
     void of(String part, String quote, Consumer<Check> test) {
-        String rest = rests.getOrDefault(part, "");
+        String rest = restOf(part);
         int at = rest.indexOf(quote);
         check.is("stands in " + part + ", not yet quoted: " + quote, at >= 0, true);
         if (at >= 0) {
@@ -60,12 +60,15 @@ final class Sentences {
         of("Promise " + promise, quote, test);
     }
 
+    /** What of a part has not been quoted yet. */
+    String restOf(String part) {
+        return rests.getOrDefault(part, "");
+    }
+
     void end() {
         rests.forEach((part, rest) -> {
-            if (part.equals("Terms") || part.startsWith("Promise ")) {
-                for (String word : rest.trim().split("\\s+")) {
-                    check.is(part + ", without a test: " + word, word.isEmpty() || HEADINGS.contains(word), true);
-                }
+            for (String word : rest.trim().split("\\s+")) {
+                check.is(part + ", without a test: " + word, word.isEmpty() || HEADINGS.contains(word), true);
             }
         });
         check.is("promises", parts.keySet().stream().filter(p -> p.startsWith("Promise ")).count(), 23);

@@ -6,7 +6,6 @@ final class TermsOneBounds {
     }
 
     static void all(Sentences s) {
-        s.of("What it is", "An object is used for at most 512 calls after it has been made;", TermsOneBounds::lastCall);
         s.of("Terms", "TOWNS 0 to 11;", TermsOneBounds::towns);
         s.of("Terms", "the HOUSE is in TOWN 0.", TermsOneBounds::townOfTheHouse);
         s.of("Terms", "The CLOCK tells a DAY (0 to 3000; 0 at first; it never goes back):", TermsOneBounds::days);
@@ -21,18 +20,6 @@ final class TermsOneBounds {
             TermsOneBounds::comesToEach);
         s.of("Terms", "Each TOWN has a COIN (0 to 3; 0 at first) and a RATE: thousandths of its COIN for one of the HOUSE's "
             + "(1 to 100000; 1000 at first).", TermsOneBounds::coinsAndRates);
-    }
-
-    private static void lastCall(Check c) {
-        House x = new House();
-        x.post(0, 1, 99);
-        x.agent(1, "pay");
-        x.credit(100000, 0, 1);
-        for (int k = x.answers().size(); k < 510; k++) {
-            c.is("call " + (k + 1), x.showCredit(1, 0, 1), k < 206 ? 0 : -1);
-        }
-        c.is("the 511th call", x.settle(99), 200);
-        c.is("the 512th call", x.due(1), 200);
     }
 
     private static void towns(Check c) {
